@@ -679,48 +679,30 @@ public final class StrikeAwake {
                 at++;
             }
             place = at;
-            if (at >= length) {
-                kind = END;
-                ahead = length;
-            } else if (bytes[at] >= 'a' && bytes[at] <= 'z') {
-                takeLetters();
-            } else if (bytes[at] >= '0' && bytes[at] <= '9') {
-                takeDigits();
-            } else {
-                takeSign(bytes[at]);
-            }
-        }
-
-        private void takeLetters() {
             key = 0;
-            int at = place;
             while (at < length && bytes[at] >= 'a' && bytes[at] <= 'z') {
                 key = key * LETTERS + (bytes[at] - 'a' + 1);
                 at++;
             }
-            ahead = at;
-            // letters that stand together are one WORD or none: a longer row isn't parted
-            kind = at - place <= MOST_LETTERS ? WORD : NO_TOKEN;
-        }
-
-        private void takeDigits() {
+            int letters = at - place;
             value = 0;
-            int at = place;
-            while (at < length && bytes[at] >= '0' && bytes[at] <= '9') {
+            while (at < length && letters == 0 && bytes[at] >= '0' && bytes[at] <= '9') {
                 value = value * 10 + (bytes[at] - '0');
                 at++;
             }
-            ahead = at;
-            kind = at - place <= MOST_DIGITS ? WHOLE : NO_TOKEN;
-        }
-
-        private void takeSign(byte sign) {
-            ahead = place + 1;
-            if (sign == ';') {
-                kind = SEMICOLON;
+            int digits = at - place - letters;
+            // what stands together is one TOKEN or none: a longer row isn't parted
+            if (letters > 0) {
+                kind = letters <= MOST_LETTERS ? WORD : NO_TOKEN;
+            } else if (digits > 0) {
+                kind = digits <= MOST_DIGITS ? WHOLE : NO_TOKEN;
+            } else if (at < length) {
+                kind = bytes[at] == ';' ? SEMICOLON : bytes[at] == ',' ? COMMA : NO_TOKEN;
+                at++;
             } else {
-                kind = sign == ',' ? COMMA : NO_TOKEN;
+                kind = END;
             }
+            ahead = at;
         }
 
         boolean isWord(String text) {

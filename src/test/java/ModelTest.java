@@ -233,7 +233,8 @@ public final class ModelTest {
             case 31: same("part" + args, m.part(h, b), x.part(h, b)); break;
             case 32: same("nothing" + args, m.nothing(), x.nothing()); break;
             case 33: same("keep" + args, m.keep(), x.keep()); break;
-            case 34: { int k = r.nextInt(3) == 0 ? in(-1, 100) : some(6); same("quiet" + k, m.quiet(k), x.quiet(k)); break; }
+            case 34: { int k = r.nextInt(3) == 0 ? in(-1, 100) : some(6);
+                same("quiet" + k, m.quiet(k), x.quiet(k)); break; }
             case 35: { int k = r.nextInt(9) == 0 ? in(-1, 100) : some(6);
                 same("strike" + k + args, m.strike(h, k), x.strike(h, k)); break; }
             case 36: same("still" + args, m.still(h), x.still(h)); break;
