@@ -93,6 +93,7 @@ public final class FaultTest {
         fault(1, A + ";sexton ^1");
         fault(1, A + ";sexton a ^a");
         fault(1, A + ";" + B + ";apart a ^b");
+        fault(1, A + ";" + B + ";apart a^;" + LAW);
         fault(1, A + ";" + B + ";apart a,^");
         fault(1, A + ";" + B + ";apart a,^,b");
         fault(1, "born^");
@@ -119,6 +120,13 @@ public final class FaultTest {
         fault(3, A + ";apart a,^a");
         fault(3, A + ";" + B + ";apart a,b;apart a,^b");
         fault(3, A + ";" + B + ";apart a,b;apart b,^a");
+        String three = A + ";" + B + ";person z bed 1 to 2 long 3 to 4;apart ";
+        fault(3, three + "a,b;apart a,z;apart a,^b");
+        fault(3, three + "a,b;apart z,b;apart a,^b");
+        fault(3, three + "a,z;apart z,b;apart z,^a");
+        fault(3, three + "a,z;apart b,z;apart b,^z");
+        fault(3, "struck 0 is 2;struck ^0");
+        fault(3, "struck 5 is 0;struck ^5");
         fault(3, "struck 1 is 2;struck ^1");
         fault(3, "struck 23 is 2;struck ^23 is 3;" + LAW + ";" + A);
         fault(3, LAW + ";^law");
@@ -158,6 +166,7 @@ public final class FaultTest {
         fine(1, "law hours 24 beside 9 off 3;person a bed 23 to 23 long 12 to 12 habit 23 nap 23 to 24;born 23;"
                 + "struck 23 is 99;told a 23 to 24;offer a 0 to 24");
         fine(1, LAW + ";person a bed 5 to 12 long 3 to 7");
+        fine(1, LAW + ";person zaz bed 5 to 5 long 3 to 3;born 0;struck 0 is 0;told zaz 0 to 1;offer zaz 0 to 1");
         fine(1, LAW + ";person a bed 16 to 23 long 8 to 12");
     }
 

@@ -94,6 +94,29 @@ public final class PromiseTest {
         fine("3 parish anew", 2, Texts.parish(x, PAIR));
         Due.is("3 said anew", 0, x.said(0));
         Due.is("3 cursor anew", 0, x.size(8));
+        parishAfterParish();
+    }
+
+    private static void parishAfterParish() {
+        begin(PAIR + ";struck 0 is 1;born 0;apart a,b;told a 1 to 2;offer a 1 to 2;sexton a");
+        x.worlds();
+        fine("3 another parish", 2, Texts.parish(x, PAIR + ";struck 1 is 1"));
+        fine("16 its worlds", 4, x.worlds());
+        fine("3 the first again, with less", 2, Texts.parish(x, PAIR));
+        int[] due = {2, 0, 0, 0, 0, 0, 4, -2, 0, 0};
+        for (int what = 0; what < 10; what++) {
+            Due.is("3 nothing is left of earlier ones, size " + what, due[what], x.size(what));
+        }
+        fine("16 its worlds", 8, x.worlds());
+        fine("43 nothing struck", -2, x.struck(0));
+        fine("12 nobody born", 1, x.strikes(0));
+        none("3 a fault behind much", Texts.parish(x, PAIR + ";struck 0 is 1;born 0;apart a,b;born"), 4);
+        fine("3 and one without", 2, Texts.parish(x, PAIR + ";struck 2 is 1"));
+        Due.is("3 one hour struck", 1, x.size(3));
+        Due.is("3 nobody born", 0, x.size(2));
+        Due.is("3 nobody apart", 0, x.size(1));
+        fine("13 judge", 2, x.judge());
+        fine("14 why", 1, x.why());
     }
 
     private static void promise6to9() {
@@ -188,6 +211,18 @@ public final class PromiseTest {
         fine("13 judge, nothing", -2, x.judge());
         fine("14 why, nothing", 0, x.why());
         fine("15 agrees, a world", 1, x.agrees());
+        begin(PAIR + ";born 0;born 0;born 3");
+        fine("12 strikes, two born in it", 3, x.strikes(0));
+        fine("12 strikes, all born", 5, x.strikes(3));
+        begin(PAIR + ";person c bed 0 to 0 long 4 to 4;apart a,c;apart c,b");
+        fine("13 judge, the first of two pairs", 0, x.judge());
+        x.say(0, 2);
+        x.say(1, 1);
+        fine("13 judge, the first of two pairs", 1, x.judge());
+        begin(PAIR + ";person c bed 3 to 3 long 1 to 1;person d bed 0 to 0 long 0 to 0;apart a,c;apart d,b");
+        x.say(0, 2);
+        fine("13 judge, two who aren't apart sleep", -2, x.judge());
+        late();
         begin(SPANLESS);
         none("11 said, one without spans", x.said(1), 1);
         refused("10 say, one without spans", x.say(1, 0), 1);
@@ -202,6 +237,25 @@ public final class PromiseTest {
         fine("15 agrees of many lots", 1, x.agrees());
         fine("9 lots", 21000, x.lots());
         beside();
+    }
+
+    private static void late() {
+        begin("law hours 24 beside 0 off 0;person a bed 11 to 12 long 1 to 1;person b bed 23 to 23 long 9 to 9;"
+                + "person c bed 0 to 0 long 12 to 12;person d bed 12 to 12 long 12 to 12;"
+                + "person e bed 5 to 5 long 5 to 5;person f bed 0 to 0 long 0 to 0;born 0;born 12;born 23");
+        int[] due = {6, 6, 6, 6, 6, 5, 5, 5, 5, 5, 6, 5, 7, 7, 7, 7, 7, 7, 7, 7, 7, 7, 7, 7};
+        for (int h = 0; h < 24; h++) {
+            fine("12 strikes of six in " + h, due[h], x.strikes(h));
+        }
+        x.say(0, 1);
+        fine("12 strikes of six, said", 6, x.strikes(11));
+        fine("12 strikes of six, said", 6, x.strikes(12));
+        x.strike(23, 7);
+        x.strike(11, 5);
+        fine("13 judge in 11", 11, x.judge());
+        fine("16 one world", 1, x.worlds());
+        x.strike(23, 6);
+        fine("36 late", 1 << 23, x.proof());
     }
 
     private static void beside() {
@@ -342,6 +396,13 @@ public final class PromiseTest {
         fine("28 possible, all forty", (1L << 40) - 1, x.possible(0));
         fine("29 one away isn't asleep", 0, x.hiding(1, 0));
         fine("29 one away isn't awake", 0, x.hiding(0, 0));
+        begin("law hours 9 beside 0 off 0;person a bed 3 to 3 long 5 to 5;person b bed 1 to 8 long 2 to 6");
+        fine("30 bed, one span", 3, x.bed(0, true));
+        fine("31 sleeps, one span", 5, x.sleeps(0, false));
+        fine("30 bed, many spans", 1, x.bed(1, false));
+        fine("30 bed, many spans", 8, x.bed(1, true));
+        fine("31 sleeps, many spans", 2, x.sleeps(1, false));
+        fine("31 sleeps, many spans", 6, x.sleeps(1, true));
     }
 
     private static void promise32to33() {
@@ -372,6 +433,15 @@ public final class PromiseTest {
         fine("16 420 worlds", 420, x.worlds());
         none("32 too many worlds", x.ask(), 3);
         none("33 too many worlds", x.askFor(0), 3);
+        // b and c have 32 SPANS each: the numbers of a's LOTS differ by 1,024
+        begin("law hours 24 beside 0 off 0;person a bed 20 to 23 long 1 to 1;person b bed 0 to 7 long 0 to 3;"
+                + "person c bed 0 to 7 long 0 to 3;struck 0 is 1");
+        fine("16 four times three times three", 36, x.worlds());
+        fine("32 all three", 7, x.ask());
+        for (int h = 20; h < 24; h++) {
+            fine("33 the first tells of " + h, 1, x.askFor(h));
+        }
+        fine("33 the others tell of 1", 6, x.askFor(1));
     }
 
     private static void promise34to36() {
@@ -403,6 +473,14 @@ public final class PromiseTest {
         begin("law hours 3 beside 0 off 0;person a bed 0 to 0 long 2 to 2 away;told a 0 to 1;told a 3 to 4");
         fine("34 one away isn't asleep", 1, x.lie(0));
         fine("34 in no hour it is", 0, x.lie(1));
+        begin("law hours 4 beside 0 off 0;person a bed 3 to 3 long 3 to 3;told a 3 to 9;told a 2 to 4");
+        fine("34 asleep to the end", 0, x.lie(0));
+        fine("34 asleep from 3 on", 1, x.lie(1));
+        begin(PAIR + ";struck 0 is 1;told a 0 to 2");
+        x.say(0, 3);
+        x.worlds();
+        x.judge();
+        fine("35 whatever was said", -2, x.bars(0));
         begin(SPANLESS);
         fine("34 no lot", 1, x.lie(0));
         fine("35 no lot", -1000, x.bars(0));
@@ -437,6 +515,16 @@ public final class PromiseTest {
         fine("36 those apart alone", 0, x.proof());
         begin(SPANLESS);
         fine("36 no lot", 0, x.proof());
+        begin(PAIR + ";struck 0 is 1;struck 1 is 1;struck 2 is 1;struck 3 is 9");
+        x.worlds();
+        x.say(1, 1);
+        x.judge();
+        fine("36 whatever was said", 8, x.proof());
+        x.strike(3, 2);
+        x.strike(1, 0);
+        fine("36 only the first LOTS are left by some", 7, x.proof());
+        begin("law hours 3 beside 0 off 0;person a bed 0 to 2 long 1 to 1;struck 0 is 0;struck 1 is 0");
+        fine("36 two, each of which can be", 3, x.proof());
         String two = "law hours 24 beside 0 off 0;person a bed 0 to 7 long 0 to 4;person b bed 0 to 4 long 0 to 4;"
                 + "struck 23 is 9;person c bed 0 to ";
         begin(two + "0 long 0 to 4");
@@ -466,6 +554,10 @@ public final class PromiseTest {
         fine("38 apart, never", 0, x.nothing());
         begin(PAIR + ";born 2");
         fine("38 born", 2, x.nothing());
+        begin(PAIR + ";born 3;born 1");
+        fine("38 born twice", 0, x.nothing());
+        begin(PAIR + ";person c bed 2 to 2 long 2 to 2;apart b,c");
+        fine("38 apart in some lots", 0, x.nothing());
         begin(SPANLESS);
         fine("38 no lot", 0, x.nothing());
         begin("law hours 3 beside 0 off 0;person a bed 0 to 0 long 2 to 2 away");
@@ -479,6 +571,12 @@ public final class PromiseTest {
         fine("39 all don't do", -2, x.keep());
         begin(PAIR);
         fine("39 no offers", -2, x.keep());
+        begin(PAIR + ";offer a 0 to 24");
+        fine("39 one that goes on for long", 1, x.keep());
+        begin(PAIR + ";offer a 0 to 2;offer b 2 to 9");
+        fine("39 all offers", 3, x.keep());
+        begin(PAIR + ";offer a 1 to 4");
+        fine("39 nobody in 0", -2, x.keep());
         begin(PAIR + ";struck 0 is 3;struck 2 is 0;struck 3 is 99;struck 4 is 0");
         fine("40 none", 4, x.quiet(0));
         fine("40 two", 4, x.quiet(2));
@@ -509,6 +607,10 @@ public final class PromiseTest {
         refused("42 nothing was", x.still(3), 1);
         refused("42 no hour", x.still(4), 1);
         refused("42 no hour below", x.still(-1), 1);
+        fine("41 nothing struck is a stroke, too", 2, x.strike(0, 0));
+        fine("43 none", 0, x.struck(0));
+        fine("42 still", true, x.still(0));
+        fine("43 nothing told", -2, x.struck(0));
         Due.is("42 one less", 1, x.size(3));
     }
 
@@ -550,6 +652,9 @@ public final class PromiseTest {
         Due.is("48 refused, it stays", 6, x.size(8));
         fine("48 cursor 20,000", true, x.restore(20000L * 1600));
         Due.is("48 cursor 20,000", 20000, x.size(8));
+        fine("48 all 0", true, x.restore(0));
+        Due.is("48 all 0", 0, x.said(0));
+        fine("48 cursor 20,000", true, x.restore(20000L * 1600));
         none("44 behind all", x.seek(), 6);
         begin(SPANLESS);
         fine("47 one without spans", 0, x.image());
@@ -601,6 +706,9 @@ public final class PromiseTest {
         x.where();
         Due.is("51 nor these", 2, x.trouble());
         fine("51 gone with the next", 4, x.spans(0));
+        begin("law hours 1 beside 0 off 0;person a bed 0 to 0 long 0 to 0 away;person b bed 0 to 0 long 0 to 0");
+        Due.is("49 the first of all", 0, led(0));
+        Due.is("49 no second", -9, led(1));
     }
 
     /** What is refused for want of a PARISH, or for too many LOTS. */
