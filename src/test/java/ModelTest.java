@@ -12,6 +12,7 @@ public final class ModelTest {
     private final Model m = new Model();
     private int calls = 0;
     private String run = "";
+    private Model truth = null;
 
     private ModelTest(long seed) {
         r = new Random(seed);
@@ -24,10 +25,10 @@ public final class ModelTest {
 
     // ---- texts
 
-    private String text(int spread) {
+    private String text(int spread, int most) {
         StringBuilder s = new StringBuilder();
         int hours = in(1, r.nextInt(3) == 0 ? 24 : 8);
-        int people = in(1, r.nextInt(4) == 0 ? 6 : 3);
+        int people = in(1, most);
         String law = "law hours " + hours + " beside " + (r.nextBoolean() ? 0 : in(0, 3)) + " off "
                 + (r.nextBoolean() ? 0 : in(0, 3));
         boolean lawFirst = r.nextInt(4) != 0;
@@ -40,9 +41,6 @@ public final class ModelTest {
         if (!lawFirst) {
             sep(s).append(law);
         }
-        if (r.nextInt(3) == 0) {
-            sep(s).append("sexton ").append(NAMES[in(0, people - 1)]);
-        }
         if (people > 1 && r.nextBoolean()) {
             sep(s).append("apart ").append(NAMES[0]).append(",").append(NAMES[1]);
         }
@@ -52,18 +50,70 @@ public final class ModelTest {
         for (int i = in(0, 2); i > 0; i--) {
             sep(s).append("born ").append(r.nextBoolean() ? in(0, hours - 1) : in(0, 23));
         }
-        for (int h = 0; h < 24; h++) {
-            if (r.nextInt(3) == 0 && (h < hours || r.nextInt(6) == 0)) {
-                sep(s).append("struck ").append(h).append(" is ").append(in(0, people + 1));
-            }
+        choose(s.toString());
+        int sexton = r.nextInt(3) == 0 ? in(0, people - 1) : -1;
+        if (sexton >= 0) {
+            sep(s).append("sexton ").append(NAMES[sexton]);
         }
-        for (int i = in(0, 3); i > 0; i--) {
+        strokes(s, hours, sexton);
+        for (int i = in(0, 4); i > 0; i--) {
             sep(s).append("told ").append(NAMES[in(0, people - 1)]).append(hours(hours));
         }
-        for (int i = in(0, 5); i > 0; i--) {
+        for (int i = in(0, 6); i > 0; i--) {
             sep(s).append("offer ").append(NAMES[in(0, people - 1)]).append(hours(hours));
         }
-        return s.length() > 900 ? text(spread) : s.toString();
+        return s.length() > 900 ? text(spread, most) : s.toString();
+    }
+
+    /** Chooses a LOT that is as if true, so that much of what is struck can be. */
+    private void choose(String text) {
+        Model told = new Model();
+        told.tape = text;
+        told.parish(text.length());
+        truth = told;
+        for (int i = 0; i < told.p.people.size(); i++) {
+            told.say(i, in(0, told.spans(i) - 1));
+        }
+    }
+
+    private int strokeIn(int hour) {
+        if (truth == null || truth.strikes(hour) < 0 || r.nextInt(12) == 0) {
+            return in(0, 7);
+        }
+        int off = r.nextInt(8) == 0 ? in(-1, 1) : 0;
+        return Math.max(0, truth.strikes(hour) + in(0, truth.p.beside) + off);
+    }
+
+    private void strokes(StringBuilder s, int hours, int sexton) {
+        int odds = in(1, 4);
+        for (int h = 0; h < 24; h++) {
+            boolean seen = h >= hours || sexton < 0 || truth.awake(sexton, truth.p.said[sexton], h) == 1;
+            if (r.nextInt(odds) == 0 && (h < hours || r.nextInt(6) == 0) && (seen || r.nextInt(12) == 0)) {
+                sep(s).append("struck ").append(h).append(" is ").append(strokeIn(h));
+            }
+        }
+    }
+
+    /** As many LINES of each sort as there is room for. */
+    private String fullText() {
+        StringBuilder s = new StringBuilder("law hours 24 beside " + in(0, 2) + " off " + in(0, 3));
+        for (int i = 0; i < 6; i++) {
+            int bed = in(0, 22);
+            int l = in(0, 8);
+            sep(s).append("person ").append((char) ('a' + i)).append(" bed ").append(bed).append(" to ")
+                    .append(bed + (i < 4 ? 1 : 0)).append(" long ").append(l).append(" to ").append(l + in(0, 1));
+        }
+        sep(s).append("apart a,b;apart c,b;apart a,c");
+        for (int i = 0; i < 3; i++) {
+            sep(s).append("born ").append(in(12, 23));
+        }
+        for (int h = 0; h < 24; h++) {
+            sep(s).append("struck ").append(h).append(" is ").append(in(3, 6));
+        }
+        for (int i = 0; i < 10; i++) {
+            sep(s).append(i < 4 ? "told " : "offer ").append((char) ('a' + in(0, 5))).append(hours(24));
+        }
+        return s.length() > 900 ? fullText() : s.toString();
     }
 
     private StringBuilder sep(StringBuilder s) {
@@ -161,18 +211,21 @@ public final class ModelTest {
         }
     }
 
+    private int some(int most) {
+        return r.nextInt(40) == 0 ? (r.nextBoolean() ? Integer.MIN_VALUE : Integer.MAX_VALUE) : in(-1, most);
+    }
+
     private int who() {
-        return r.nextInt(40) == 0 ? (r.nextBoolean() ? Integer.MIN_VALUE : Integer.MAX_VALUE)
-                : in(-1, Math.max(1, m.size(0)));
+        return r.nextInt(8) == 0 ? some(6) : in(0, Math.max(0, m.size(0) - 1));
     }
 
     private int when() {
-        return r.nextInt(40) == 0 ? (r.nextBoolean() ? Integer.MIN_VALUE : Integer.MAX_VALUE)
-                : r.nextInt(12) == 0 ? in(-1, 24) : in(0, Math.max(0, m.size(6) - 1));
+        return r.nextInt(12) == 0 ? some(24) : in(0, Math.max(0, m.size(6) - 1));
     }
 
-    private int some(int most) {
-        return r.nextInt(40) == 0 ? (r.nextBoolean() ? Integer.MIN_VALUE : Integer.MAX_VALUE) : in(-1, most);
+    private int which(int person) {
+        int spans = m.p == null || person < 0 || person >= m.p.people.size() ? 1 : m.p.people.get(person).spans.size();
+        return r.nextInt(8) == 0 ? some(40) : in(0, Math.max(0, spans - 1));
     }
 
     private void ledBoth(int i) {
@@ -194,7 +247,7 @@ public final class ModelTest {
     private void call(int which) {
         int w = who();
         int h = when();
-        int i = some(8);
+        int i = which(w);
         boolean b = r.nextBoolean();
         String args = "#" + which + "(" + w + "," + i + "," + h + "," + b + ")";
         switch (which) {
@@ -227,15 +280,15 @@ public final class ModelTest {
             case 25: same("sleeps" + args, m.sleeps(w, b), x.sleeps(w, b)); break;
             case 26: same("ask" + args, m.ask(), x.ask()); break;
             case 27: same("askFor" + args, m.askFor(h), x.askFor(h)); break;
-            case 28: { int t = some(4); same("lie" + t + args, m.lie(t), x.lie(t)); break; }
-            case 29: { int t = some(4); same("bars" + t + args, m.bars(t), x.bars(t)); break; }
+            case 28: { int t = r.nextInt(8) == 0 ? some(4) : in(0, 3); same("lie" + t + args, m.lie(t), x.lie(t)); break; }
+            case 29: { int t = r.nextInt(8) == 0 ? some(4) : in(0, 3); same("bars" + t + args, m.bars(t), x.bars(t)); break; }
             case 30: same("proof" + args, m.proof(), x.proof()); break;
             case 31: same("part" + args, m.part(h, b), x.part(h, b)); break;
             case 32: same("nothing" + args, m.nothing(), x.nothing()); break;
             case 33: same("keep" + args, m.keep(), x.keep()); break;
             case 34: { int k = r.nextInt(3) == 0 ? in(-1, 100) : some(6);
                 same("quiet" + k, m.quiet(k), x.quiet(k)); break; }
-            case 35: { int k = r.nextInt(9) == 0 ? in(-1, 100) : some(6);
+            case 35: { int k = r.nextInt(9) == 0 ? in(-1, 100) : h < 0 || h > 23 ? 1 : strokeIn(h);
                 same("strike" + k + args, m.strike(h, k), x.strike(h, k)); break; }
             case 36: same("still" + args, m.still(h), x.still(h)); break;
             case 37: same("struck" + args, m.struck(h), x.struck(h)); break;
@@ -288,26 +341,33 @@ public final class ModelTest {
             if (t.r.nextInt(4) == 0) {
                 t.callAll(20, true);
             }
-            int spread = n % 10 == 0 ? 2 : 1;
-            t.tellBoth(t.text(spread));
+            t.tellBoth(t.text(1, n % 3 == 0 ? 5 : 3));
             t.callAll(160, true);
-            t.tellBoth(t.spoilt(t.text(1)));
+            t.tellBoth(t.spoilt(t.text(1, 3)));
             t.callAll(20, true);
-            t.tellBoth(t.text(1));
+            t.tellBoth(t.text(3, 2));
             t.callAll(120, true);
         }
-        for (int n = 0; n < 3000; n++) {
+        for (int n = 0; n < 8 * runs; n++) {
             ModelTest t = new ModelTest(1_000_000 + first + n);
             for (int k = 0; k < 6; k++) {
-                t.tellBoth(t.spoilt(t.text(3)));
+                t.tellBoth(t.spoilt(t.text(3, 5)));
             }
         }
-        for (int n = 0; n < 30; n++) {
+        for (int n = 0; n < runs / 8; n++) {
             ModelTest t = new ModelTest(2_000_000 + first + n);
-            t.tellBoth(t.text(4));
+            t.tellBoth(t.text(4, 3));
             t.callAll(60, t.m.lots() < 3000);
-            t.tellBoth(t.text(7));
+            t.tellBoth(t.text(7, 3));
             t.callAll(60, t.m.lots() < 3000);
+            t.tellBoth(t.text(7, 6));
+            t.callAll(60, t.m.lots() < 3000);
+        }
+        for (int n = 0; n < runs / 32; n++) {
+            ModelTest t = new ModelTest(3_000_000 + first + n);
+            t.tellBoth(t.fullText());
+            t.call(30);
+            t.callAll(100, t.m.worlds() > 0);
         }
         Due.end("ModelTest");
     }
