@@ -520,7 +520,8 @@ public final class StrikeAwake {
             case 4: return current.told;
             case 5: return current.offers;
             case 6: return current.hours;
-            case 7: return current.sexton;
+            // -2 tells of a PARISH without one; without a PARISH there isn't even that
+            case 7: return hasParish ? current.sexton : 0;
             case 8: return current.cursor;
             case 9: return taped;
             default: return NONE;

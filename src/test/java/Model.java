@@ -1046,7 +1046,7 @@ final class Model {
             return tape.length();
         }
         if (p == null) {
-            return what == 7 ? -2 : 0;
+            return 0;
         }
         return new int[] {p.people.size(), p.apart.size(), p.births.size(), p.struck.size(), p.told.size(),
             p.offers.size(), p.hours, p.sexton, p.cursor}[what];

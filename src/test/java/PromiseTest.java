@@ -765,8 +765,16 @@ public final class PromiseTest {
         refused("48 restore, no parish first", x.restore(-1), 1);
         Due.is("49 led", -9, led(0));
         for (int what = 0; what < 10; what++) {
-            Due.is("50 size " + what, what == 7 ? -2 : 0, x.size(what));
+            Due.is("50 size without a parish " + what, 0, x.size(what));
         }
+        none("3 a fault with a sexton", Texts.parish(x, PAIR + ";sexton b;sexton a"), 4);
+        Due.is("50 no sexton of a parish refused", 0, x.size(7));
+        fine("3 a parish", 2, Texts.parish(x, PAIR));
+        Due.is("50 a parish without a sexton", -2, x.size(7));
+        fine("3 a parish", 2, Texts.parish(x, PAIR + ";sexton b"));
+        Due.is("50 a parish with one", 1, x.size(7));
+        none("3 a fault", Texts.parish(x, PAIR + ";sexton"), 4);
+        Due.is("50 the sexton stays", 1, x.size(7));
     }
 
     private static void tooMany() {
