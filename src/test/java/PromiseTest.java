@@ -797,6 +797,79 @@ public final class PromiseTest {
         fine("47 image", 39L * 1600, x.image());
     }
 
+    /** LINES by which in each of the 24 HOURS so many were struck. */
+    private static String struckAlways(int many) {
+        StringBuilder lines = new StringBuilder();
+        for (int hour = 0; hour < 24; hour++) {
+            lines.append(";struck ").append(hour).append(" is ").append(many);
+        }
+        return lines.toString();
+    }
+
+    /** All rooms full at once: 40 SPANS, 24 HOURS struck. */
+    private static void fullest() {
+        begin("law hours 24 beside 9 off 0;person a bed 0 to 7 long 0 to 4;told a 12 to 13;told a 7 to 11"
+                + struckAlways(1));
+        fine("16 worlds", 40, x.worlds());
+        Due.is("50 hours struck", 24, x.size(3));
+        fine("40 quiet", 0xFFFFFF, x.quiet(1));
+        fine("28 possible", (1L << 40) - 1, x.possible(0));
+        fine("20 having the last", 1, x.having(0, 39));
+        none("20 having one more", x.having(0, 40), 1);
+        fine("21 times", 36, x.times(0, 0));
+        fine("24 chance", 90, x.chance(0, 0));
+        fine("24 chance in the last hour", 100, x.chance(0, 23));
+        fine("30 bed", 7, x.bed(0, true));
+        fine("31 sleeps", 4, x.sleeps(0, true));
+        fine("34 so in no span", 1, x.lie(0));
+        fine("35 so in no span", -1000, x.bars(0));
+        fine("34 so in the last span", 0, x.lie(1));
+        fine("35 so in the last span", -2, x.bars(1));
+        fine("37 part", 0, x.part(23, true));
+        fine("37 part", 1, x.part(0, true));
+        fine("32 ask", 1, x.ask());
+        String wakeful = "beside 0 off 3;person a bed 0 to 0 long 0 to 0";
+        begin("law hours 24 " + wakeful + struckAlways(2));
+        fine("36 three hours off may be", -2, x.proof());
+        begin("law hours 24 " + wakeful.replace('3', '2') + struckAlways(2));
+        fine("36 three hours off may not", 7, x.proof());
+        begin("law hours 24 " + wakeful + struckAlways(3));
+        fine("36 one hour does", 1, x.proof());
+    }
+
+    /** One who is apart from two: both asleep with it are no less wrong than one. */
+    private static void apartFromTwo() {
+        begin("law hours 2 beside 0 off 0;person a bed 0 to 0 long 1 to 1;person b bed 0 to 0 long 1 to 1;"
+                + "person c bed 0 to 1 long 1 to 1;apart a,c;apart b,c;told c 0 to 1");
+        fine("16 worlds", 1, x.worlds());
+        fine("13 judge", 0, x.judge());
+        fine("14 why", 2, x.why());
+        fine("15 agrees", 0, x.agrees());
+        fine("35 bars", -1000, x.bars(0));
+        fine("38 nothing", 0, x.nothing());
+        fine("17 can by one world", 1, x.can());
+        fine("18 one span", 0, x.world(0, 0));
+        fine("18 the other span", 1, x.world(0, 2));
+        fine("25 likeliest isn't the first lot", 1, x.likeliest(2));
+        fine("26 greatest", 1, x.greatest());
+        fine("24 chance by a weight of 1", 100, x.chance(2, 0));
+    }
+
+    /** Two LOTS, each asleep in one HOUR of two. */
+    private static void twoLots() {
+        String one = "person a bed 0 to 1 long 1 to 1";
+        begin("law hours 2 beside 0 off 0;" + one + ";struck 0 is 1;struck 1 is 1");
+        fine("36 either hour leaves a lot", 3, x.proof());
+        begin("law hours 2 beside 1 off 0;" + one + ";struck 0 is 1;struck 1 is 1");
+        fine("37 the first world has less", 0, x.part(0, false));
+        fine("37 the first world has less", 1, x.part(0, true));
+        fine("37 the first world has more", 0, x.part(1, false));
+        fine("37 the first world has more", 1, x.part(1, true));
+        begin("law hours 3 beside 0 off 0;person a bed 0 to 0 long 2 to 3;born 2;born 2");
+        fine("38 nothing in both lots, and two born", 3, x.nothing());
+        fine("12 two born", 3, x.strikes(2));
+    }
+
     public static void main(String[] args) {
         promise1to5();
         promise6to9();
@@ -812,6 +885,9 @@ public final class PromiseTest {
         promise49to51();
         without();
         tooMany();
+        fullest();
+        apartFromTwo();
+        twoLots();
         Due.end("PromiseTest");
     }
 }
