@@ -201,11 +201,12 @@ public final class StrikeAwake {
     }
 
     public int world(int i, int person) {
-        int bar = barOfWorlds(isPerson(person));
+        // none stands ahead of the first, however many LOTS there are; where they end only the count tells
+        int bar = barOfWorlds(isPerson(person) && i >= 0);
         if (bar != FINE) {
             return refuse(bar);
         }
-        if (i < 0 || i >= census.count) {
+        if (i >= census.count) {
             return refuse(NO_SUCH);
         }
         return answer(current.spanIn(census.numberOf(i), person));
@@ -392,7 +393,7 @@ public final class StrikeAwake {
         }
         int bits = 0;
         walk.toFirst(current);
-        for (int number = 0; number < current.lotCount; number++) {
+        for (int number = 0; number < current.lotCount && number < LOT_ROOM; number++) {
             if (!walk.isQuarrel()) {
                 bits |= walk.silentHours(current);
             }
@@ -1723,7 +1724,7 @@ public final class StrikeAwake {
             int hours = parish.toldHours[told];
             int latest = FAR_BELOW;
             walk.toFirst(parish);
-            for (int number = 0; number < parish.lotCount; number++) {
+            for (int number = 0; number < parish.lotCount && number < LOT_ROOM; number++) {
                 int asleep = person.asleepIn[walk.pickOf(parish.toldOf[told])];
                 if (!walk.isQuarrel() && (asleep & hours) == hours) {
                     int hour = walk.failsIn(parish);

@@ -601,11 +601,11 @@ final class Model {
     }
 
     int world(int i, int person) {
-        int b = bar(person(person));
+        int b = bar(person(person) && i >= 0);
         if (b != 0) {
             return no(b);
         }
-        return i < 0 || i >= worldList().size() ? no(1) : ok(worldList().get(i)[person]);
+        return i >= worldList().size() ? no(1) : ok(worldList().get(i)[person]);
     }
 
     long weights() {

@@ -781,6 +781,9 @@ public final class PromiseTest {
         begin(OVER);
         bare(3);
         none("18 no person first", x.world(0, 3), 1);
+        none("18 none ahead of the first, first", x.world(-1, 0), 1);
+        none("18 none far ahead of it, first", x.world(Integer.MIN_VALUE, 2), 1);
+        none("18 a later one isn't known", x.world(Integer.MAX_VALUE, 2), 3);
         none("20 no span first", x.having(2, 21), 1);
         none("21 no hour first", x.times(0, 24), 1);
         none("23 no hour first", x.surely(24, true), 1);
