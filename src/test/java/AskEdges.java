@@ -74,6 +74,7 @@ final class AskEdges extends Edge {
         term("(or, for an HOUR: all who are AWAKE in it are told);");
         due("the first LOT and the last, in 0", 1, x.askFor(0));
         due("the first LOT and the last, in 1", 1, x.askFor(1));
+        due("all of both again, behind one HOUR", 1, x.ask());
         begin("law hours 2 beside 0 off 0;person a bed 0 to 0 long 0 to 0;person b bed 5 to 12 long 0 to 4");
         due("nothing to be told of the first HOUR", 0, x.askFor(0));
         due("nothing to be told of the last HOUR", 0, x.askFor(1));
@@ -111,7 +112,8 @@ final class AskEdges extends Edge {
 
     private static void lie() {
         term("LIE: what was told (ASLEEP in all these HOURS) is so in no WORLD.");
-        String law = "law hours 6 beside 0 off 0;person a bed 1 to 2 long 0 to 2;told a 1 to 2;told a 1 to 3;told a 1 to 4;"
+        String law = "law hours 6 beside 0 off 0;person a bed 1 to 2 long 0 to 2;told a 1 to 2;told a 1 to 3"
+                + ";told a 1 to 4;"
                 + "told a 2 to 24";
         begin(law);
         due("in one HOUR", 0, x.lie(0));
@@ -127,7 +129,8 @@ final class AskEdges extends Edge {
         due("not asleep in the first of them in the only WORLD", 1, x.lie(1));
         x.strike(3, 9);
         due("no WORLD", 1, x.lie(0));
-        begin("law hours 3 beside 0 off 0;person a bed 2 to 2 long 12 to 12;told a 2 to 24;told a 3 to 24;told a 1 to 3;told a 0 to 1");
+        begin("law hours 3 beside 0 off 0;person a bed 2 to 2 long 12 to 12;told a 2 to 24;told a 3 to 24"
+                + ";told a 1 to 3;told a 0 to 1");
         due("from the last HOUR on", 0, x.lie(0));
         due("of no HOUR", 0, x.lie(1));
         due("one HOUR of two", 1, x.lie(2));
@@ -136,11 +139,13 @@ final class AskEdges extends Edge {
         due("asleep in all 24", 0, x.lie(0));
         begin("law hours 24 beside 0 off 0;person a bed 0 to 0 long 12 to 12 nap 12 to 23;told a 0 to 24");
         due("awake in the last of 24", 1, x.lie(0));
-        begin("law hours 2 beside 0 off 0;person a bed 0 to 0 long 0 to 1;person b bed 0 to 0 long 1 to 1;apart a,b;told a 0 to 1;"
+        begin("law hours 2 beside 0 off 0;person a bed 0 to 0 long 0 to 1;person b bed 0 to 0 long 1 to 1;apart a,b"
+                + ";told a 0 to 1;"
                 + "told b 0 to 1");
         due("asleep with one apart", 1, x.lie(0));
         due("the other", 0, x.lie(1));
-        begin("law hours 24 beside 0 off 0" + forty("ab") + ";told b 11 to 12;told b 10 to 11;told b 6 to 11;told b 7 to 11");
+        begin("law hours 24 beside 0 off 0" + forty("ab") + ";told b 11 to 12;told b 10 to 11;told b 6 to 11"
+                + ";told b 7 to 11");
         int[] lies = {1, 0, 1, 0};
         for (int told = 0; told < 4; told++) {
             due("of 40 SPANS, in none or in the last alone", lies[told], x.lie(told));
@@ -151,7 +156,8 @@ final class AskEdges extends Edge {
     }
 
     private static void bars() {
-        term("BARS: the first HOUR by whose strokes and those ahead alone it is so in none (with off as it is, and those apart);");
+        term("BARS: the first HOUR by whose strokes and those ahead alone it is so in none (with off as it is, and "
+                + "those apart);");
         String law = "law hours 6 beside 0 off 0;person a bed 0 to 5 long 1 to 1;told a 3 to 4;told a 0 to 1";
         begin(law + ";struck 3 is 1");
         due("the HOUR that is told", 3, x.bars(0));
@@ -176,13 +182,15 @@ final class AskEdges extends Edge {
         due("off 3: one that is neither", 2, x.bars(0));
         begin(off + "3;person a bed 5 to 5 long 1 to 1;told a 5 to 6;struck 1 is 2;struck 3 is 2;struck 4 is 2");
         due("off 3: three are no bar", -2, x.bars(0));
-        begin("law hours 3 beside 0 off 0;person a bed 0 to 0 long 0 to 1;person b bed 0 to 0 long 0 to 1;apart a,b;told a 0 to 1;"
+        begin("law hours 3 beside 0 off 0;person a bed 0 to 0 long 0 to 1;person b bed 0 to 0 long 0 to 1;apart a,b"
+                + ";told a 0 to 1;"
                 + "struck 1 is 2;struck 2 is 9;struck 0 is 2");
         due("both awake in 0", 0, x.bars(0));
         x.strike(0, 1);
         due("the other is awake in 0, then", 2, x.bars(0));
         term("-1,000 if nothing struck does but those apart.");
-        begin("law hours 3 beside 0 off 0;person a bed 0 to 0 long 0 to 1;person b bed 0 to 0 long 1 to 1;apart a,b;told a 0 to 1");
+        begin("law hours 3 beside 0 off 0;person a bed 0 to 0 long 0 to 1;person b bed 0 to 0 long 1 to 1;apart a,b"
+                + ";told a 0 to 1");
         due("nothing struck, those apart do", -1000, x.bars(0));
         x.strike(0, 9);
         due("something struck, those apart do", -1000, x.bars(0));
@@ -206,10 +214,12 @@ final class AskEdges extends Edge {
         begin("law hours 4 beside 0 off 0;person a bed 0 to 3 long 1 to 1" + struckIn(4, 1));
         due("four would do, three don't", -2, x.proof());
         for (int off = 0; off <= 3; off++) {
-            begin("law hours 6 beside 0 off " + off + ALWAYS + ";struck 1 is 2;struck 2 is 0;struck 4 is 2;struck 5 is 0");
+            begin("law hours 6 beside 0 off " + off + ALWAYS + ";struck 1 is 2;struck 2 is 0;struck 4 is 2"
+                    + ";struck 5 is 0");
             due("each is OFF, off " + off, new int[] {2, 6, 22, -2}[off], x.proof());
         }
-        begin("law hours 2 beside 0 off 0;person a bed 0 to 0 long 1 to 1;person b bed 0 to 0 long 1 to 1;apart a,b;struck 0 is 9");
+        begin("law hours 2 beside 0 off 0;person a bed 0 to 0 long 1 to 1;person b bed 0 to 0 long 1 to 1;apart a,b"
+                + ";struck 0 is 9");
         due("those apart alone: no HOUR", 0, x.proof());
         begin("law hours 2 beside 0 off 0;person a bed 0 to 0 long 1 to 1;person b bed 0 to 0 long 1 to 1;apart a,b");
         due("those apart alone, nothing struck", 0, x.proof());
@@ -220,7 +230,8 @@ final class AskEdges extends Edge {
         due("the last two of 24", 3 << 22, x.proof());
         begin(first + "2" + ALWAYS + struckIn(21, 1) + ";struck 21 is 2;struck 22 is 2;struck 23 is 2");
         due("the last three of 24", 7 << 21, x.proof());
-        begin(first + "2" + ALWAYS + struckIn(21, 1).replace("struck 10 is 1", "struck 10 is 0") + ";struck 22 is 2;struck 23 is 2");
+        String oneIsOff = struckIn(21, 1).replace("struck 10 is 1", "struck 10 is 0");
+        begin(first + "2" + ALWAYS + oneIsOff + ";struck 22 is 2;struck 23 is 2");
         due("one between and the last two", 3 << 22 | 1 << 10, x.proof());
         begin(first + "3" + ALWAYS + struckIn(20, 1) + ";struck 20 is 2;struck 21 is 2;struck 22 is 2;struck 23 is 2");
         due("four of 24: three don't do", -2, x.proof());
@@ -253,8 +264,10 @@ final class AskEdges extends Edge {
     }
 
     private static void beside() {
-        term("BESIDE in an HOUR that was struck: what was struck less STRIKES, the least and the greatest by all WORLDS.");
-        String law = "law hours 2 beside 9 off 1;person a bed 0 to 0 long 0 to 1;person b bed 0 to 0 long 0 to 1;struck 0 is ";
+        term("BESIDE in an HOUR that was struck: what was struck less STRIKES, the least and the greatest by all "
+                + "WORLDS.");
+        String law = "law hours 2 beside 9 off 1;person a bed 0 to 0 long 0 to 1;person b bed 0 to 0 long 0 to 1"
+                + ";struck 0 is ";
         int[] least = {-1, -1, 0, 1, 2, 7, 8, 9, 10};
         int[] greatest = {0, 1, 2, 3, 4, 9, 10, 10, 10};
         int[] struck = {0, 1, 2, 3, 4, 9, 10, 11, 12};
@@ -270,7 +283,8 @@ final class AskEdges extends Edge {
         due("one WORLD, the last HOUR", 9, x.part(23, false));
         x.strike(23, 1);
         due("struck anew", 0, x.part(23, true));
-        begin("law hours 2 beside 9 off 0;person a bed 0 to 0 long 0 to 1;person b bed 0 to 0 long 0 to 1;struck 0 is 9");
+        begin("law hours 2 beside 9 off 0;person a bed 0 to 0 long 0 to 1;person b bed 0 to 0 long 0 to 1"
+                + ";struck 0 is 9");
         for (int k = 0; k < 3; k++) {
             due("all WORLDS, the least", 7, x.part(0, false));
             due("all WORLDS, the greatest", 9, x.part(0, true));
@@ -302,12 +316,14 @@ final class AskEdges extends Edge {
         begin("law hours 3 beside 0 off 0;person a bed 0 to 1 long 1 to 1;person b bed 0 to 0 long 1 to 1;"
                 + "person c bed 1 to 1 long 1 to 1 away;apart a,b");
         due("apart, in some LOTS", 0, x.nothing());
-        begin("law hours 3 beside 0 off 0;person a bed 0 to 1 long 1 to 1;person b bed 0 to 0 long 0 to 0 away;apart a,b");
+        begin("law hours 3 beside 0 off 0;person a bed 0 to 1 long 1 to 1;person b bed 0 to 0 long 0 to 0 away"
+                + ";apart a,b");
         due("apart from one away", 3, x.nothing());
         begin(SPANLESS);
         due("no LOT", 0, x.nothing());
         String asleep = "law hours 3 beside 0 off 0;person a bed 0 to 0 long 3 to 3";
-        String[] births = {"", ";born 0", ";born 0;born 2", ";born 2;born 0", ";born 1;born 2", ";born 2;born 1", ";born 2"};
+        String[] births = {"", ";born 0", ";born 0;born 2", ";born 2;born 0", ";born 1;born 2", ";born 2;born 1",
+                ";born 2"};
         int[] silent = {7, 0, 0, 0, 1, 1, 3};
         for (int k = 0; k < births.length; k++) {
             begin(asleep + births[k]);

@@ -67,7 +67,8 @@ final class CallEdges extends Edge {
     }
 
     private static void trouble() {
-        term("IV. TROUBLE of the latest call that may be refused (those of which a number is told here): 0 it wasn't; 1 there is none"
+        term("IV. TROUBLE of the latest call that may be refused (those of which a number is told here): 0 it wasn't"
+                + "; 1 there is none"
                 + " such; 2 a number; 3 no room; 4 a FAULT; 5 not so; 6 there is none.");
         x = new StrikeAwake();
         due("no call yet", 0, x.trouble());
@@ -117,7 +118,8 @@ final class CallEdges extends Edge {
     }
 
     private static void lastCall() {
-        Sentence.begin("What it is", "An object is used for at most 512 calls after it has been made; what later calls answer is free.");
+        Sentence.begin("What it is", "An object is used for at most 512 calls after it has been made"
+                + "; what later calls answer is free.");
         x = new StrikeAwake();
         int calls = (ONE.length() + 19) / 20 + 1;
         due("the first calls", 1, Texts.parish(x, ONE));
@@ -136,7 +138,8 @@ final class CallEdges extends Edge {
     }
 
     private static void promise41() {
-        promise(41, "In an HOUR so many (0 .. 99) were struck, whatever was (the SPANS of the sexton stay): how many HOURS are struck.");
+        promise(41, "In an HOUR so many (0 .. 99) were struck, whatever was (the SPANS of the sexton stay): how many "
+                + "HOURS are struck.");
         begin("law hours 24 beside 0 off 0;person a bed 0 to 0 long 0 to 1;struck 0 is 1");
         fine("whatever was", 1, x.strike(0, 0));
         due("it is so", 0, x.struck(0));
@@ -356,7 +359,8 @@ final class CallEdges extends Edge {
             due("image()", n, x.image());
         }
         long[] bad = {2, 39, 4 * 40, 39 * 40, 4 * 40 + 1, 3 * 40 + 2, 20001L * 1600, 20001L * 1600 + 41, -1, -40, -1600,
-            -1600L * 20000, (1L << 32) * 1600, (1L << 32) * 1600 + 1, 1L << 32, 5L << 32, Long.MIN_VALUE, Long.MAX_VALUE,
+            -1600L * 20000, (1L << 32) * 1600, (1L << 32) * 1600 + 1, 1L << 32, 5L << 32, Long.MIN_VALUE,
+                    Long.MAX_VALUE,
             Long.MIN_VALUE + 1, Long.MAX_VALUE / 1600 * 1600};
         long before = x.image();
         for (long n : bad) {
@@ -390,7 +394,8 @@ final class CallEdges extends Edge {
     }
 
     private static void promise49() {
-        promise(49, "The i-th (0: the first) person that is away, by LINES. NoSuchElementException if there is none such.");
+        promise(49, "The i-th (0: the first) person that is away, by LINES. NoSuchElementException if there is none "
+                + "such.");
         x = new StrikeAwake();
         due("no PARISH", -9, led(0));
         due("no PARISH", -9, led(-1));
@@ -413,7 +418,8 @@ final class CallEdges extends Edge {
     }
 
     private static void promise50() {
-        promise(50, "0 people, 1 pairs apart, 2 births, 3 HOURS struck now, 4 what was told, 5 offers, 6 HOURS, 7 the sexton (-2), 8"
+        promise(50, "0 people, 1 pairs apart, 2 births, 3 HOURS struck now, 4 what was told, 5 offers, 6 HOURS, 7 the "
+                + "sexton (-2), 8"
                 + " CURSOR, 9 bytes of THE TAPE.");
         begin(ONE);
         int[] least = {1, 0, 0, 0, 0, 0, 3, -2, 0, 0};

@@ -43,7 +43,8 @@ final class SpanEdges extends Edge {
     }
 
     private static void asleep() {
-        term("II. A SPAN of a person: bed at an HOUR b, so long l, as told: it is ASLEEP in HOURS b up to b and l less 1;");
+        term("II. A SPAN of a person: bed at an HOUR b, so long l, as told: it is ASLEEP in HOURS b up to b and l "
+                + "less 1;");
         begin("law hours 24 beside 0 off 0;person a bed 16 to 23 long 8 to 12;person b bed 0 to 7 long 0 to 4;"
                 + "person c bed 11 to 13 long 0 to 2");
         for (int person = 0; person < 3; person++) {
@@ -92,7 +93,8 @@ final class SpanEdges extends Edge {
 
     private static void away() {
         term("One that is away has one SPAN, b 0 and l 0, and is never ASLEEP; nor AWAKE.");
-        begin("law hours 4 beside 0 off 0;person a bed 3 to 8 long 2 to 6 nap 0 to 24 away;person b bed 0 to 0 long 4 to 4;"
+        begin("law hours 4 beside 0 off 0;person a bed 3 to 8 long 2 to 6 nap 0 to 24 away"
+                + ";person b bed 0 to 0 long 4 to 4;"
                 + "apart a,b;told a 0 to 1;told a 3 to 4");
         due("spans(0)", 1, x.spans(0));
         due("b", 0, x.span(0, 0, 0));
@@ -124,7 +126,8 @@ final class SpanEdges extends Edge {
     }
 
     private static void sexton() {
-        term("The SPANS of the sexton are those alone in which it is AWAKE in all HOURS struck in the text (away: its one).");
+        term("The SPANS of the sexton are those alone in which it is AWAKE in all HOURS struck in the text (away: its "
+                + "one).");
         String law = "law hours 6 beside 0 off 0;person s bed 2 to 2 long 2 to 2;sexton s";
         int[] spans = {1, 1, 0, 0, 1, 1};
         for (int hour = 0; hour < 6; hour++) {
@@ -139,7 +142,8 @@ final class SpanEdges extends Edge {
         due("still(2)", true, x.still(2));
         due("struck no more, its spans stay", 0, x.spans(0));
         due("struck no more, there is no LOT", 0, x.lots());
-        begin("law hours 6 beside 0 off 0;struck 2 is 1;person t bed 2 to 2 long 2 to 2;person s bed 2 to 3 long 0 to 2;"
+        begin("law hours 6 beside 0 off 0;struck 2 is 1;person t bed 2 to 2 long 2 to 2"
+                + ";person s bed 2 to 3 long 0 to 2;"
                 + "sexton s;struck 4 is 1");
         // (2,0) (2,1)- (2,2)- (3,0) (3,1) (3,2)-
         due("struck ahead of its LINE and behind it", 3, x.spans(1));
@@ -158,7 +162,8 @@ final class SpanEdges extends Edge {
         begin("law hours 4 beside 0 off 0;person s bed 0 to 7 long 1 to 4 nap 0 to 4 away;sexton s" + struckIn(4, 0));
         due("away: its one", 1, x.spans(0));
         due("away: worlds()", 1, x.worlds());
-        begin("law hours 4 beside 0 off 0;person t bed 0 to 0 long 4 to 4;person s bed 0 to 0 long 4 to 4;struck 0 is 1");
+        begin("law hours 4 beside 0 off 0;person t bed 0 to 0 long 4 to 4;person s bed 0 to 0 long 4 to 4"
+                + ";struck 0 is 1");
         due("without a sexton all have theirs", 1, x.lots());
     }
 
@@ -231,7 +236,8 @@ final class SpanEdges extends Edge {
                     x.strike(1, many);
                     boolean agrees = many >= 2 && many <= 2 + beside;
                     boolean isOff = many == 1 || many == 3 + beside;
-                    due("off " + off + ", beside " + beside + ", two strike, struck " + many, agrees || off > 0 && isOff,
+                    due("off " + off + ", beside " + beside + ", two strike, struck " + many,
+                            agrees || off > 0 && isOff,
                             x.agrees() == 1);
                     due("off " + off + ", beside " + beside + ", two strike, struck " + many, x.agrees(), x.can());
                 }
@@ -263,20 +269,24 @@ final class SpanEdges extends Edge {
         due("40 SPANS for each of six", 4096000000L, x.lots());
         begin(SPANLESS);
         due("one without SPANS", 0, x.lots());
-        begin("law hours 2 beside 0 off 0" + forty("abcde") + ";person s bed 0 to 0 long 1 to 1;sexton s;struck 0 is 1");
+        begin("law hours 2 beside 0 off 0" + forty("abcde") + ";person s bed 0 to 0 long 1 to 1;sexton s"
+                + ";struck 0 is 1");
         due("one without SPANS behind five of 40", 0, x.lots());
         due("there is no LOT, so that there is room", 0, x.worlds());
-        begin("law hours 2 beside 0 off 0;person s bed 0 to 0 long 1 to 1" + forty("abcde") + ";sexton s;struck 0 is 1");
+        begin("law hours 2 beside 0 off 0;person s bed 0 to 0 long 1 to 1" + forty("abcde") + ";sexton s"
+                + ";struck 0 is 1");
         due("one without SPANS ahead of five of 40", 0, x.lots());
         due("there is no LOT, so that there is room", 0, x.worlds());
     }
 
     private static void worlds() {
-        term("It is a WORLD if no two that are apart are ASLEEP in one HOUR, and of what is struck all AGREES but off HOURS at most,"
+        term("It is a WORLD if no two that are apart are ASLEEP in one HOUR, and of what is struck all AGREES but off "
+                + "HOURS at most,"
                 + " which are OFF.");
         String two = "law hours 6 beside 0 off 3;person a bed 2 to 2 long 2 to 2;person b bed ";
         String[] beds = {"0 to 0 long 2 to 2", "0 to 0 long 3 to 3", "1 to 1 long 2 to 2", "2 to 2 long 2 to 2",
-            "3 to 3 long 1 to 1", "3 to 3 long 5 to 5", "4 to 4 long 5 to 5", "2 to 2 long 0 to 0", "0 to 0 long 12 to 12",
+            "3 to 3 long 1 to 1", "3 to 3 long 5 to 5", "4 to 4 long 5 to 5", "2 to 2 long 0 to 0",
+                    "0 to 0 long 12 to 12",
             "0 to 0 long 0 to 0 nap 3 to 4", "0 to 0 long 0 to 0 nap 4 to 24", "0 to 0 long 6 to 6 away"};
         int[] can = {1, 0, 0, 0, 0, 0, 1, 1, 0, 0, 1, 1};
         for (int k = 0; k < beds.length; k++) {
@@ -324,7 +334,8 @@ final class SpanEdges extends Edge {
                 int a = beds & 1;
                 int b = beds >> 1 & 1;
                 int c = beds >> 2;
-                begin("law hours 2 beside 0 off 0" + asleepAt("a", a) + asleepAt("b", b) + asleepAt("c", c) + ";apart " + pairs);
+                begin("law hours 2 beside 0 off 0" + asleepAt("a", a) + asleepAt("b", b) + asleepAt("c", c)
+                        + ";apart " + pairs);
                 due("one apart from two, " + pairs + ", asleep at " + a + b + c, a != c && b != c, x.can() == 1);
             }
         }
@@ -414,7 +425,8 @@ final class SpanEdges extends Edge {
 
     private static void wrong() {
         term("WRONG in an HOUR: 1 something was struck and doesn't AGREE; else 2 two that are apart are ASLEEP.");
-        String two = "law hours 3 beside 0 off 3;person a bed 0 to 2 long 1 to 1;person b bed 0 to 2 long 1 to 1;apart a,b";
+        String two = "law hours 3 beside 0 off 3;person a bed 0 to 2 long 1 to 1;person b bed 0 to 2 long 1 to 1"
+                + ";apart a,b";
         begin(two);
         due("asleep at once", 2, x.why());
         due("asleep at once", 0, x.judge());
@@ -442,7 +454,8 @@ final class SpanEdges extends Edge {
 
     private static void weight() {
         term("WEIGHT of a SPAN: 10 less how far b is from the habit (1 at least), 1 without a habit;");
-        int[][] beds = {{0, 0}, {0, 1}, {1, 0}, {8, 0}, {0, 8}, {9, 0}, {0, 9}, {10, 0}, {0, 10}, {11, 0}, {23, 0}, {0, 23},
+        int[][] beds = {{0, 0}, {0, 1}, {1, 0}, {8, 0}, {0, 8}, {9, 0}, {0, 9}, {10, 0}, {0, 10}, {11, 0}, {23, 0},
+                {0, 23},
             {23, 23}, {23, 14}, {23, 15}};
         int[] weights = {10, 9, 9, 2, 2, 1, 1, 1, 1, 1, 1, 1, 10, 1, 2};
         for (int k = 0; k < beds.length; k++) {
@@ -468,7 +481,8 @@ final class SpanEdges extends Edge {
         due("six of 1", 1, x.greatest());
         begin("law hours 1 beside 0 off 0;person a bed 0 to 0 long 0 to 0;person b bed 0 to 0 long 0 to 0");
         due("no habits", 1, x.greatest());
-        begin("law hours 1 beside 0 off 0;person a bed 0 to 0 long 0 to 0 habit 1;person b bed 0 to 0 long 0 to 0 habit 2;"
+        begin("law hours 1 beside 0 off 0;person a bed 0 to 0 long 0 to 0 habit 1"
+                + ";person b bed 0 to 0 long 0 to 0 habit 2;"
                 + "person c bed 0 to 0 long 0 to 0");
         due("9 times 8 times 1", 72, x.greatest());
     }
@@ -493,7 +507,8 @@ final class SpanEdges extends Edge {
 
     private static void promise7() {
         promise(7, "Of a SPAN 0 b, 1 l, 2 its WEIGHT.");
-        begin("law hours 24 beside 0 off 0;person a bed 16 to 23 long 8 to 12 habit 22;person b bed 0 to 0 long 0 to 0");
+        begin("law hours 24 beside 0 off 0;person a bed 16 to 23 long 8 to 12 habit 22"
+                + ";person b bed 0 to 0 long 0 to 0");
         int[][] due = {{16, 8, 4}, {23, 12, 9}};
         for (int k = 0; k < 2; k++) {
             for (int what = 0; what < 3; what++) {

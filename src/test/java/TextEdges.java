@@ -201,7 +201,8 @@ final class TextEdges extends Edge {
 
     private static void bed() {
         term("(HOURS 0 .. 23, the latter not below the former, 7 more at most;");
-        for (String range : new String[] {"0 to 0", "0 to 7", "5 to 5", "5 to 12", "16 to 23", "22 to 23", "23 to 23"}) {
+        for (String range : new String[] {"0 to 0", "0 to 7", "5 to 5", "5 to 12", "16 to 23", "22 to 23",
+                "23 to 23"}) {
             reads(1, LAW + ";person a bed " + range + " long 1 to 1");
             String[] ends = range.split(" to ");
             int from = Integer.parseInt(ends[0]);
@@ -475,7 +476,8 @@ final class TextEdges extends Edge {
 
     private static void toldAgain() {
         String four = LAW + ";" + A + ";" + B + ";" + C + ";" + D;
-        term("3 a NAME told again; the second of two that is the first, or two apart told again (either way round); an HOUR"
+        term("3 a NAME told again; the second of two that is the first, or two apart told again (either way round)"
+                + "; an HOUR"
                 + " struck again; at it;");
         fault(3, four + ";person ^a bed 1 to 2 long 3 to 4");
         fault(3, four + ";person ^d bed 1 to 2 long 3 to 4");
@@ -584,7 +586,8 @@ final class TextEdges extends Edge {
         due("offered for more: keep()", 1, x.keep());
         begin(three + ";offer a 3 to 24;offer b 0 to 2");
         due("offered for no HOUR: keep()", -2, x.keep());
-        begin("law hours 3 beside 0 off 0;person s bed 0 to 7 long 0 to 2 nap 3 to 24;sexton s;struck 3 is 1;struck 7 is 1");
+        begin("law hours 3 beside 0 off 0;person s bed 0 to 7 long 0 to 2 nap 3 to 24;sexton s;struck 3 is 1"
+                + ";struck 7 is 1");
         due("the sexton asleep in no HOUR: spans(0)", 24, x.spans(0));
         due("a nap in no HOUR: awake in all", 7, awakeIn(0, 0));
         begin("law hours 3 beside 0 off 0;person a bed 3 to 3 long 1 to 1;person b bed 3 to 3 long 1 to 1;apart a,b");
@@ -642,7 +645,8 @@ final class TextEdges extends Edge {
     }
 
     private static void promise3() {
-        promise(3, "The first n bytes of THE TAPE (it is empty then) are the PARISH from now on (SAID all 0, CURSOR 0): how many"
+        promise(3, "The first n bytes of THE TAPE (it is empty then) are the PARISH from now on (SAID all 0, CURSOR "
+                + "0): how many"
                 + " people.");
         x = new StrikeAwake();
         Texts.feed(x, PAIR + ";!!!!");
@@ -670,13 +674,16 @@ final class TextEdges extends Edge {
 
     /** Texts behind one that fills all rooms are read as if they were the first. */
     private static void nothingIsLeft() {
-        StringBuilder rich = new StringBuilder("law hours 24 beside 9 off 3;person a bed 2 to 3 long 2 to 2 habit 3 nap 4 to 24");
+        StringBuilder rich = new StringBuilder("law hours 24 beside 9 off 3"
+                + ";person a bed 2 to 3 long 2 to 2 habit 3 nap 4 to 24");
         for (String name : "b c d e f".split(" ")) {
-            rich.append(";person ").append(name).append(" bed 9 to 9 long 0 to 1").append(name.equals("b") ? " away" : "");
+            rich.append(";person ").append(name).append(" bed 9 to 9 long 0 to 1").append(name.equals("b") ? " "
+                    + "away" : "");
         }
         rich.append(";sexton b;apart a,b;apart b,c;apart c,d").append(repeat(";born 0", 3)).append(struckIn(24, 7));
         rich.append(repeat(";told a 2 to 3", 4)).append(repeat(";offer a 0 to 24", 6));
-        String plain = "law hours 5 beside 0 off 0;person a bed 1 to 2 long 1 to 1;person b bed 2 to 3 long 1 to 1;person d"
+        String plain = "law hours 5 beside 0 off 0;person a bed 1 to 2 long 1 to 1;person b bed 2 to 3 long 1 to 1"
+                + ";person d"
                 + " bed 2 to 3 long 1 to 1;struck 2 is 2;told b 2 to 3;offer a 0 to 4";
         begin(plain);
         long[] first = look();

@@ -70,7 +70,8 @@ final class WorldEdges extends Edge {
         begin("law hours 24 beside 0 off 0;person a bed 7 to 7 long 0 to 2");
         due("1 of 3 is 33.3", 33, x.chance(0, 7));
         due("2 of 3 is 66.6", 66, x.chance(0, 8));
-        begin("law hours 24 beside 0 off 0;person a bed 0 to 1 long 1 to 1 habit 0;person b bed 0 to 0 long 0 to 0 habit 9");
+        begin("law hours 24 beside 0 off 0;person a bed 0 to 1 long 1 to 1 habit 0"
+                + ";person b bed 0 to 0 long 0 to 0 habit 9");
         due("9 of 19 is 47.3", 47, x.chance(0, 0));
         due("10 of 19 is 52.6", 52, x.chance(0, 1));
         due("1 of 1", 100, x.chance(1, 0));
@@ -127,7 +128,8 @@ final class WorldEdges extends Edge {
         term("LIKELIEST: the WORLD of greatest WEIGHT, the first such.");
         begin("law hours 24 beside 9 off 0" + forty("ab"));
         due("all alike: the first", 0, x.likeliest(0) + x.likeliest(1));
-        begin("law hours 24 beside 9 off 0;person a bed 0 to 7 long 0 to 4 habit 7;person b bed 0 to 7 long 0 to 4 habit 3");
+        begin("law hours 24 beside 9 off 0;person a bed 0 to 7 long 0 to 4 habit 7"
+                + ";person b bed 0 to 7 long 0 to 4 habit 3");
         due("the first of the last b", 35, x.likeliest(0));
         due("the first of b 3", 15, x.likeliest(1));
         begin("law hours 9 beside 0 off 0;person a bed 0 to 2 long 1 to 1 habit 1;struck 1 is 1");
@@ -432,11 +434,14 @@ final class WorldEdges extends Edge {
         fine("the other way round", 255, x.together(2, 0));
         fine("with one always asleep", 0, x.together(0, 1));
         fine("with one away", 0, x.together(3, 0));
-        begin("law hours 24 beside 0 off 0;person a bed 0 to 0 long 12 to 12 nap 12 to 23;person b bed 0 to 0 long 0 to 0");
+        begin("law hours 24 beside 0 off 0;person a bed 0 to 0 long 12 to 12 nap 12 to 23"
+                + ";person b bed 0 to 0 long 0 to 0");
         fine("the last HOUR alone", 1 << 23, x.together(0, 1));
-        begin("law hours 24 beside 0 off 0;person a bed 1 to 1 long 12 to 12 nap 13 to 24;person b bed 0 to 0 long 0 to 0");
+        begin("law hours 24 beside 0 off 0;person a bed 1 to 1 long 12 to 12 nap 13 to 24"
+                + ";person b bed 0 to 0 long 0 to 0");
         fine("the first HOUR alone", 1, x.together(0, 1));
-        begin("law hours 2 beside 0 off 0;person a bed 0 to 1 long 1 to 1;person b bed 0 to 1 long 1 to 1;struck 0 is 1");
+        begin("law hours 2 beside 0 off 0;person a bed 0 to 1 long 1 to 1;person b bed 0 to 1 long 1 to 1"
+                + ";struck 0 is 1");
         fine("each awake, but never at one HOUR in one WORLD", 0, x.together(0, 1));
         begin(NEVER + ";person b bed 0 to 0 long 0 to 0");
         fine("no WORLD", 0, x.together(0, 1));
@@ -495,7 +500,8 @@ final class WorldEdges extends Edge {
         begin("law hours 1 beside 0 off 0;person a bed 0 to 0 long 1 to 1"
                 + forty("bcdef").replace("0 to 7 long 0 to 4", "0 to 0 long 0 to 0"));
         fine("five others", 62, x.hiding(0, 0));
-        begin("law hours 2 beside 0 off 0;person a bed 0 to 1 long 1 to 1;person b bed 0 to 1 long 1 to 1;struck 0 is 0");
+        begin("law hours 2 beside 0 off 0;person a bed 0 to 1 long 1 to 1;person b bed 0 to 1 long 1 to 1"
+                + ";struck 0 is 0");
         fine("not in one WORLD: both asleep then", 0, x.hiding(0, 0));
         fine("nobody is asleep then", 0, x.hiding(0, 1));
         begin(NEVER);
